@@ -218,19 +218,27 @@ public final class RelayTest {
     }
 
     private static void crashOfTheRelay() {
-        RealmLogins x = answered();
-        x.copy(0);
-        CHECK.due("before", x.deliver(0), 1);
-        x.lose(1);
+        RealmLogins x = Realm.peopled();
+        for (int i = 0; i < 8; i++) {
+            x.login(i / 4, i % 4, 0, 1, 60 + i);
+        }
+        for (int i = 0; i < 16; i++) {
+            CHECK.due("eight entries and eight records", x.deliver(0), 1);
+        }
+        x.sync(3);
         CHECK.due("crash", x.crash(2), true);
-        CHECK.due("flight", x.flight(), 1);
-        CHECK.due("no entry is there", x.deliver(0), 0);
-        CHECK.due("lines stay", x.line(1, 2, 0), 1);
-        CHECK.due("sends again", x.tick(5), 1);
-        CHECK.due("an entry is made", x.deliver(0), 1);
-        CHECK.due("in place 0", x.field(0, 1), 0);
-        CHECK.due("the number of entries made goes on", x.field(0, 2), Realm.mix(60, 2));
+        CHECK.due("what flies stays", x.flight(), 8);
+        for (int i = 0; i < 8; i++) {
+            CHECK.due("no entry is there", x.deliver(0), 0);
+        }
+        CHECK.due("lines stay, and send again", x.tick(5), 8);
+        x.lose(0);
+        for (int i = 1; i < 8; i++) {
+            CHECK.due("an entry is made", x.deliver(0), 1);
+            CHECK.due("from place 0 on", x.field(6, 1), i - 1);
+            CHECK.due("the number of entries made goes on", x.field(6, 2), Realm.mix(60 + i, 7 + i));
+        }
         CHECK.due("a new request for the home", x.deliver(0), 1);
-        CHECK.due("home", x.journal(3, 0), 2);
+        CHECK.due("the home's records stay", x.journal(3, 0), 9);
     }
 }
