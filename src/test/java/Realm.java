@@ -75,6 +75,55 @@ final class Realm {
         x.deliver(0);
     }
 
+    /** An ASK of user 0 with AUTH 7 and ID 0 on its way from line 0 of point 0 to the relay. */
+    static RealmLogins askToRelay() {
+        RealmLogins x = peopled();
+        x.login(0, 0, 0, 1000, 7);
+        return x;
+    }
+
+    /** The same ASK on its way to home 3, of entry 0. */
+    static RealmLogins askToHome() {
+        RealmLogins x = askToRelay();
+        x.deliver(0);
+        return x;
+    }
+
+    /** The ACCEPT of home 3 on its way to the relay. */
+    static RealmLogins answerToRelay() {
+        RealmLogins x = askToHome();
+        x.deliver(0);
+        x.sync(3);
+        return x;
+    }
+
+    /** The ACCEPT of the relay on its way to point 0. */
+    static RealmLogins answerToPoint() {
+        RealmLogins x = answerToRelay();
+        x.deliver(0);
+        return x;
+    }
+
+    /** A CLOSED for line 0 of point 0, which is CLOSING with ID 1 and AUTH 8. */
+    static RealmLogins answerToClosing() {
+        RealmLogins x = answerToPoint();
+        x.copy(0);
+        x.deliver(0);
+        x.logout(0, 0, 8);
+        x.lose(1);
+        x.forge(0, 0, CLOSED - ACCEPT);
+        x.forge(0, 1, 1);
+        reseal(x, 0, KEYS[0], 8);
+        return x;
+    }
+
+    /** Copies the datagram at place 0 until so many are in flight. */
+    static void copyUpTo(RealmLogins x, int count) {
+        for (int i = x.flight(); i < count; i++) {
+            x.copy(0);
+        }
+    }
+
     /** All that can be seen of an object, as a text. */
     static String look(RealmLogins x) {
         StringBuilder seen = new StringBuilder();
