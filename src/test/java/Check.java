@@ -17,6 +17,11 @@ final class Check {
         lookedBefore = looked;
     }
 
+    /** The same, where a sentence has several tests. */
+    void about(String next, String edge) {
+        about(next + "; " + edge);
+    }
+
     void due(String what, int got, int want) {
         looked++;
         if (got != want) {

@@ -44,7 +44,7 @@ public final class Edges01NewObjectTest {
     }
 
     private static void linesAndHomesAreAsAtTheBeginning() {
-        CHECK.about("all is as said for the beginning: lines and homes");
+        CHECK.about("all is as said for the beginning", "lines and homes");
         RealmLogins x = new RealmLogins();
         for (int i = 0; i < 8; i++) {
             int[] due = {0, 0, -1, -1, -1};
@@ -66,7 +66,7 @@ public final class Edges01NewObjectTest {
 
     /** Made after another object that has come far, so that nothing is shared. */
     private static void pointsAndRelayAreAsAtTheBeginning() {
-        CHECK.about("all is as said for the beginning: IDs, keys, entries");
+        CHECK.about("all is as said for the beginning", "IDs, keys, entries");
         State.BUSY.make();
         State.FULL.make();
         RealmLogins x = new RealmLogins();

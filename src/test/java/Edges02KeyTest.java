@@ -21,7 +21,7 @@ public final class Edges02KeyTest {
     }
 
     private static void keysAreReplaced() {
-        CHECK.about("The keys of a link become near and far, whatever they were");
+        CHECK.about("The keys of a link become near and far", "whatever they were");
         for (int link = 0; link < 4; link++) {
             RealmLogins x = new RealmLogins();
             x.key(link, Edges.MIN, Edges.MAX);

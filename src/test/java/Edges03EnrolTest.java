@@ -102,7 +102,7 @@ public final class Edges03EnrolTest {
     }
 
     private static void refusedEnrolLeavesPasswordAndLimit() {
-        CHECK.about("False when the user is not 0 .. 11 or the limit is not 0 .. 6: it changes nothing");
+        CHECK.about("False when the user is not 0 .. 11 or the limit is not 0 .. 6", "it changes nothing");
         for (int user = 0; user < 12; user++) {
             for (int limit : Edges.outside(0, 6)) {
                 RealmLogins x = Realm.keyed();

@@ -16,7 +16,8 @@ public final class Edges04LoginTest {
     }
 
     private static void everyLineAndUser() {
-        CHECK.about("The line becomes ASKING for the user with this password and the AUTH draw (any ints), gets a new ID");
+        CHECK.about("The line becomes ASKING for the user with this password and the AUTH draw (any ints), "
+                + "gets a new ID");
         for (int point = 0; point < 2; point++) {
             for (int line = 0; line < 4; line++) {
                 for (int user : new int[] {0, 1, 10, 11}) {

@@ -50,7 +50,7 @@ public final class Edges06DeliverTest {
     }
 
     private static void droppedChangesNothingElse() {
-        CHECK.about("Answers 0 when it is dropped: lines, entries and records stay");
+        CHECK.about("Answers 0 when it is dropped", "lines, entries and records stay");
         for (State state : new State[] {State.BUSY, State.FULL}) {
             for (int k = 0; k < (state == State.BUSY ? 6 : 3); k++) {
                 RealmLogins x = state.make();
@@ -64,7 +64,8 @@ public final class Edges06DeliverTest {
     }
 
     private static void answers1WhenItIsTaken() {
-        CHECK.about("1 when it is taken (it settles a line, makes an entry or a record, or is an answer that the relay hands on)");
+        CHECK.about("1 when it is taken (it settles a line, makes an entry or a record, "
+                + "or is an answer that the relay hands on)");
         CHECK.due("makes an entry", Realm.askToRelay().deliver(0), 1);
         CHECK.due("makes a record", Realm.askToHome().deliver(0), 1);
         CHECK.due("is handed on", Realm.answerToRelay().deliver(0), 1);

@@ -30,7 +30,7 @@ public final class Edges07LoseTest {
     }
 
     private static void untilNothingIsInFlight() {
-        CHECK.about("Takes the datagram at place k out of the flight, until there is none");
+        CHECK.about("Takes the datagram at place k out of the flight", "until there is none");
         RealmLogins x = State.FULL.make();
         for (int left = 23; left >= 0; left--) {
             CHECK.due("lose", x.lose(left / 2), true);
@@ -41,7 +41,7 @@ public final class Edges07LoseTest {
     }
 
     private static void nobodyHearsIt() {
-        CHECK.about("Takes the datagram at place k out of the flight, and does not give it to its receiver");
+        CHECK.about("Takes the datagram at place k out of the flight", "and does not give it to its receiver");
         RealmLogins x = Realm.askToRelay();
         x.lose(0);
         x.tick(5);

@@ -30,7 +30,7 @@ public final class Edges08CopyTest {
     }
 
     private static void copyIsApart() {
-        CHECK.about("a copy of the datagram: what is forged in one is not in the other");
+        CHECK.about("a copy of the datagram", "what is forged in one is not in the other");
         for (int f = 0; f < 6; f++) {
             RealmLogins x = State.BUSY.make();
             x.copy(2);
@@ -44,7 +44,7 @@ public final class Edges08CopyTest {
     }
 
     private static void copyIsAsGood() {
-        CHECK.about("a copy of the datagram: its sender and receiver are the same");
+        CHECK.about("a copy of the datagram", "its sender and receiver are the same");
         for (int k = 0; k < 6; k++) {
             RealmLogins x = State.BUSY.make();
             RealmLogins y = State.BUSY.make();
@@ -82,7 +82,7 @@ public final class Edges08CopyTest {
     }
 
     private static void falseWhen24AreInFlight() {
-        CHECK.about("false when .. 24 are in flight: it changes nothing");
+        CHECK.about("false when .. 24 are in flight", "it changes nothing");
         Refusals refusals = new Refusals(CHECK);
         for (int k = 0; k < 24; k++) {
             int place = k;

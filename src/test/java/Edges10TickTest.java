@@ -99,7 +99,7 @@ public final class Edges10TickTest {
     }
 
     private static void idleWithItsVerdictWhenItWasClosing() {
-        CHECK.about("otherwise it becomes IDLE: a CLOSING line keeps its verdict");
+        CHECK.about("otherwise it becomes IDLE", "a CLOSING line keeps its verdict");
         RealmLogins x = Realm.peopled();
         Realm.letIn(x, 0, 0, 0, 7);
         x.logout(0, 0, 8);
@@ -179,7 +179,7 @@ public final class Edges10TickTest {
     }
 
     private static void whatALineSendsIsTheSame() {
-        CHECK.about("sends again: with its ID and AUTH, and the key of now");
+        CHECK.about("sends again", "with its ID and AUTH, and the key of now");
         RealmLogins x = Realm.keyed();
         x.login(1, 1, 11, Edges.MIN, MAX);
         x.tick(5);

@@ -17,7 +17,7 @@ public final class Edges11SyncTest {
     }
 
     private static void nothingToDo(int home) {
-        CHECK.about("Answers how many became durable: 0 when all are durable already");
+        CHECK.about("Answers how many became durable", "0 when all are durable already");
         Desk desk = new Desk(home);
         CHECK.due("no record", desk.x.sync(home), 0);
         desk.fill(1, 2);
@@ -47,7 +47,7 @@ public final class Edges11SyncTest {
     }
 
     private static void fortyBecomeDurable(int home) {
-        CHECK.about("All records of the home become durable: 40 at once");
+        CHECK.about("All records of the home become durable", "40 at once");
         Desk desk = new Desk(home);
         desk.fill(1000, 40);
         CHECK.due("sync", desk.x.sync(home), 40);

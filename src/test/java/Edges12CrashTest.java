@@ -58,7 +58,7 @@ public final class Edges12CrashTest {
     }
 
     private static void crashAtTheBeginning() {
-        CHECK.about("crash of a new object's stations");
+        CHECK.about("boolean crash(int station)", "at the beginning");
         RealmLogins x = new RealmLogins();
         for (int station = 0; station < 5; station++) {
             CHECK.due("crash(" + station + ")", x.crash(station), true);
@@ -121,7 +121,7 @@ public final class Edges12CrashTest {
     }
 
     private static void allRecordsMayGo(int home) {
-        CHECK.about("the records that are not durable are gone: all 40 of them");
+        CHECK.about("the records that are not durable are gone", "all 40 of them");
         Desk desk = new Desk(home);
         for (int i = 0; i < 6; i++) {
             desk.ask(i, desk.user(i));
@@ -136,7 +136,7 @@ public final class Edges12CrashTest {
     }
 
     private static void allRecordsMayStay(int home) {
-        CHECK.about("the records that are not durable are gone: none of 40");
+        CHECK.about("the records that are not durable are gone", "none of 40");
         Desk desk = new Desk(home);
         for (int i = 0; i < 6; i++) {
             desk.ask(i, desk.user(i));
@@ -152,7 +152,7 @@ public final class Edges12CrashTest {
     }
 
     private static void fullJournalHasPlacesAgain(int home) {
-        CHECK.about("the records that are not durable are gone: 1 of 40");
+        CHECK.about("the records that are not durable are gone", "1 of 40");
         Desk desk = new Desk(home);
         desk.fill(1000, 39);
         desk.x.sync(home);
@@ -225,7 +225,7 @@ public final class Edges12CrashTest {
     }
 
     private static void goneRequestsAreNotKnown(int home) {
-        CHECK.about("the records that are not durable are gone: their requests are not known");
+        CHECK.about("the records that are not durable are gone", "their requests are not known");
         Desk desk = new Desk(home);
         desk.close(1, 0, 0);
         desk.x.sync(home);
@@ -243,7 +243,7 @@ public final class Edges12CrashTest {
     }
 
     private static void restStays() {
-        CHECK.about("crash: what it does not name stays");
+        CHECK.about("boolean crash(int station)", "what it does not name stays");
         for (int station = 0; station < 5; station++) {
             RealmLogins x = State.BUSY.make();
             x.crash(station);

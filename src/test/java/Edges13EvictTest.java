@@ -84,7 +84,7 @@ public final class Edges13EvictTest {
     }
 
     private static void goesWithACrash(int home) {
-        CHECK.about("Makes a record: it goes with a crash when it is not durable");
+        CHECK.about("Makes a record", "it goes with a crash when it is not durable");
         Desk desk = sixOpen(home);
         desk.x.sync(home);
         desk.x.evict(home, 0);
@@ -108,7 +108,7 @@ public final class Edges13EvictTest {
     }
 
     private static void falseForNoAddress() {
-        CHECK.about("False when .. no open session has the address: no address");
+        CHECK.about("False when .. no open session has the address", "no address");
         for (int address : Edges.outside(0, 5)) {
             REFUSALS.no("evict(3, " + address + ")", x -> x.evict(3, address));
             REFUSALS.no("evict(4, " + address + ")", x -> x.evict(4, address));
@@ -116,7 +116,7 @@ public final class Edges13EvictTest {
     }
 
     private static void falseWithoutAnOpenSession() {
-        CHECK.about("False when .. no open session has the address: a free address");
+        CHECK.about("False when .. no open session has the address", "a free address");
         for (int i = 0; i < 6; i++) {
             int address = i;
             REFUSALS.noIn(State.NEW, "evict(3, " + address + ")", x -> x.evict(3, address));
@@ -132,7 +132,7 @@ public final class Edges13EvictTest {
     }
 
     private static void falseWhen40RecordsAreThere() {
-        CHECK.about("False when .. 40 records are there: it changes nothing");
+        CHECK.about("False when .. 40 records are there", "it changes nothing");
         for (int i = 0; i < 6; i++) {
             int address = i;
             REFUSALS.noIn(State.FULL, "evict(3, " + address + ")", x -> x.evict(3, address));

@@ -21,7 +21,8 @@ public final class Edges16LineTest {
     }
 
     private static void ofEveryKind() {
-        CHECK.about("0 what it is (0 IDLE, 1 ASKING, 2 UP, 3 CLOSING), 1 its verdict, 2 its ID (NONE when it is not pending), "
+        CHECK.about("0 what it is (0 IDLE, 1 ASKING, 2 UP, 3 CLOSING), 1 its verdict, "
+                + "2 its ID (NONE when it is not pending), "
                 + "3 its session and 4 its address (NONE when it is IDLE or ASKING)");
         RealmLogins x = Realm.peopled();
         Realm.letIn(x, 0, 1, 2, 1);

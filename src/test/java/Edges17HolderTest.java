@@ -29,7 +29,7 @@ public final class Edges17HolderTest {
     }
 
     private static void homesAreApart(int home) {
-        CHECK.about("The user of the open session with this address: of this home alone");
+        CHECK.about("The user of the open session with this address", "of this home alone");
         Desk desk = new Desk(home);
         desk.ask(1, desk.user(0));
         for (int address = 0; address < 6; address++) {
@@ -38,7 +38,7 @@ public final class Edges17HolderTest {
     }
 
     private static void whenASessionComesAndGoes(int home) {
-        CHECK.about("NONE when there is none: a session that is open no more");
+        CHECK.about("NONE when there is none", "a session that is open no more");
         Desk desk = new Desk(home);
         desk.ask(1, desk.user(0));
         CHECK.due("open, though not durable", desk.x.holder(home, 0), desk.user(0));

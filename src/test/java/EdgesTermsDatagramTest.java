@@ -153,7 +153,8 @@ public final class EdgesTermsDatagramTest {
     }
 
     private static void answerIsRightForOneSeal() {
-        CHECK.about("it is RIGHT when its SEAL is its seal for the receiver's key and the AUTH that the receiver has for it");
+        CHECK.about("it is RIGHT when its SEAL is its seal for the receiver's key "
+                + "and the AUTH that the receiver has for it");
         rightForOneSeal("the relay", Realm::answerToRelay, false);
         rightForOneSeal("an ASKING line", Realm::answerToPoint, false);
         rightForOneSeal("a CLOSING line", Realm::answerToClosing, false);

@@ -37,7 +37,7 @@ public final class EdgesTermsFlightTest {
 
     /** With 22, 23 and 24 in flight: the last that finds a place, and the first that is lost. */
     private static void the25thOfALoginIsLost() {
-        CHECK.about("when 24 are in flight already, it is lost: login");
+        CHECK.about("when 24 are in flight already, it is lost", "login");
         for (int before = 22; before <= 24; before++) {
             RealmLogins x = Realm.askToRelay();
             Realm.copyUpTo(x, before);
@@ -50,7 +50,7 @@ public final class EdgesTermsFlightTest {
     }
 
     private static void the25thOfALogoutIsLost() {
-        CHECK.about("when 24 are in flight already, it is lost: logout");
+        CHECK.about("when 24 are in flight already, it is lost", "logout");
         for (int before = 22; before <= 24; before++) {
             RealmLogins x = Realm.peopled();
             Realm.letIn(x, 1, 0, 1, 1);
@@ -64,7 +64,7 @@ public final class EdgesTermsFlightTest {
     }
 
     private static void the25thOfATickIsLost() {
-        CHECK.about("when 24 are in flight already, it is lost: tick");
+        CHECK.about("when 24 are in flight already, it is lost", "tick");
         for (int before = 22; before <= 24; before++) {
             RealmLogins x = Realm.askToRelay();
             x.login(1, 3, 1, 1001, 99);
@@ -83,7 +83,7 @@ public final class EdgesTermsFlightTest {
     }
 
     private static void the25thOfASyncIsLost() {
-        CHECK.about("when 24 are in flight already, it is lost: sync");
+        CHECK.about("when 24 are in flight already, it is lost", "sync");
         for (int before = 21; before <= 24; before++) {
             Desk desk = new Desk(3);
             RealmLogins x = desk.x;
@@ -107,7 +107,7 @@ public final class EdgesTermsFlightTest {
 
     /** What is delivered is out of the flight before its receiver sends. */
     private static void whatAReceiverSendsFindsThePlaceOfWhatItHears() {
-        CHECK.about("when 24 are in flight already, it is lost: deliver");
+        CHECK.about("when 24 are in flight already, it is lost", "deliver");
         RealmLogins x = Realm.askToRelay();
         Realm.copyUpTo(x, 24);
         CHECK.due("the relay hears a request", x.deliver(0), 1);

@@ -250,7 +250,8 @@ public final class EdgesTermsHomeTest {
     }
 
     private static void askAtTheLimitIsRejected(int home) {
-        CHECK.about("REJECT with A 2 and B 0, when the user's open sessions here are as many as the user's limit or more");
+        CHECK.about("REJECT with A 2 and B 0, when the user's open sessions here are as many as "
+                + "the user's limit or more");
         for (int limit = 0; limit <= 6; limit++) {
             Desk desk = new Desk(home);
             int user = desk.user(3);

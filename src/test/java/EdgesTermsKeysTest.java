@@ -173,7 +173,8 @@ public final class EdgesTermsKeysTest {
     }
 
     private static void mixWraps() {
-        CHECK.about("MIX(a, b), in ints that wrap: s = 31 * a + b + 5, t = s ^ (s >>> 13), and MIX(a, b) is t * 40503.");
+        CHECK.about("MIX(a, b), in ints that wrap: s = 31 * a + b + 5, t = s ^ (s >>> 13), "
+                + "and MIX(a, b) is t * 40503.");
         int[][] worked = {
             {0, 0, 202515}, {-1, 26, 0}, {0, -5, 0}, {0, -6, 239599616}, {1, -37, 239599616},
             {0, MAX - 5, 119799808}, {0, MAX - 4, -119799808}, {0, MAX, -119637796}, {69273666, -5, 119840311},

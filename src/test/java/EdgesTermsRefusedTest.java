@@ -10,7 +10,7 @@ public final class EdgesTermsRefusedTest {
     }
 
     private static void statesAreWhatTheySay() {
-        CHECK.about("the states of the other tests: BUSY");
+        CHECK.about("A call that answers NONE or false changes nothing.", "the state BUSY that it is looked at in");
         RealmLogins x = State.BUSY.make();
         int[] lines = {2, 1, 3, 0, 2, 1, 0, 0};
         int[] verdicts = {1, 0, 1, 2, 1, 0, 3, 1};
@@ -28,7 +28,7 @@ public final class EdgesTermsRefusedTest {
         journal(x, 3, 4, 3, 1);
         journal(x, 4, 5, 4, 1);
 
-        CHECK.about("the states of the other tests: FULL");
+        CHECK.about("A call that answers NONE or false changes nothing.", "the state FULL that it is looked at in");
         x = State.FULL.make();
         CHECK.due("flight", x.flight(), 24);
         journal(x, 3, 40, 30, 0);

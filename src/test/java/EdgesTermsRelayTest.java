@@ -173,7 +173,8 @@ public final class EdgesTermsRelayTest {
     }
 
     private static void passwordIsHiddenAnew() {
-        CHECK.about("of an ASK what came ^ MIX(the key to the point, the AUTH that came) ^ MIX(the key to the home, own auth)");
+        CHECK.about("of an ASK what came ^ MIX(the key to the point, the AUTH that came) "
+                + "^ MIX(the key to the home, own auth)");
         for (int b : Edges.INTS) {
             RealmLogins x = Realm.askToRelay();
             CHECK.due("an ASK with B " + b, bring(x, Realm.ASK, 0, MIN, 1, b), 1);
@@ -208,7 +209,8 @@ public final class EdgesTermsRelayTest {
     }
 
     private static void answerIdIs0To7() {
-        CHECK.about("A datagram from a home is taken when it is an answer, its ID is 0 .. 7, the entry with this number is there");
+        CHECK.about("A datagram from a home is taken when it is an answer, its ID is 0 .. 7, "
+                + "the entry with this number is there");
         for (int id : new int[] {MIN, MIN + 7, -8, -1, 0, 1, 6, 7, 8, 9, 15, 256, 65543, MAX}) {
             RealmLogins x = Realm.peopled();
             for (int i = 0; i < 8; i++) {
@@ -248,7 +250,8 @@ public final class EdgesTermsRelayTest {
     }
 
     private static void answerIsHandedOnWithAnyInts() {
-        CHECK.about("an answer of the same KIND, A and B with the entry's ID is sent to the entry's point, with the seal for the entry's AUTH");
+        CHECK.about("an answer of the same KIND, A and B with the entry's ID is sent to the entry's point, "
+                + "with the seal for the entry's AUTH");
         for (int kind : new int[] {Realm.ACCEPT, Realm.REJECT, Realm.CLOSED}) {
             for (int v : Edges.INTS) {
                 RealmLogins x = Realm.answerToRelay();

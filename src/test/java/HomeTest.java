@@ -291,23 +291,20 @@ public final class HomeTest {
     }
 
     private static void fullJournalDropsButKnows() {
-        RealmLogins x = asked();
-        askAndLook(x, 100, 2, 1002, Realm.ACCEPT, 0, 0);
-        for (int i = 1; i < 39; i++) {
-            deliverAs(x, Realm.CLOSE, 0, i, 8, 8);
-        }
+        Desk desk = new Desk(3);
+        RealmLogins x = desk.x;
+        desk.ask(100, 2);
+        desk.fill(1, 38);
         x.sync(3);
         CHECK.due("what finds no place is lost", x.flight(), 24);
-        while (x.flight() > 1) {
-            x.lose(1);
-        }
-        CHECK.due("the fortieth", deliverAs(x, Realm.CLOSE, 0, 39, 8, 8), 1);
+        desk.clear();
+        CHECK.due("the fortieth", desk.close(39, 8, 8), 1);
         journal(x, 3, 40, 39, 0);
-        CHECK.due("one more", deliverAs(x, Realm.CLOSE, 0, 40, 2, 0), 0);
-        CHECK.due("one more ASK", ask(x, 41, 4, 1004), 0);
+        CHECK.due("one more", desk.close(40, 2, 0), 0);
+        CHECK.due("one more ASK", desk.ask(41, 4), 0);
         CHECK.due("evict", x.evict(3, 0), false);
-        CHECK.due("known, durable", deliverAs(x, Realm.CLOSE, 0, 38, 8, 8), 2);
-        CHECK.due("known, not durable", deliverAs(x, Realm.CLOSE, 0, 39, 8, 8), 3);
+        CHECK.due("known, durable", desk.close(38, 8, 8), 2);
+        CHECK.due("known, not durable", desk.close(39, 8, 8), 3);
         journal(x, 3, 40, 39, 0);
         holders(x, 3, 2, -1, -1, -1, -1, -1);
         x.crash(3);

@@ -125,7 +125,8 @@ public final class ModelTest {
     private void due(String call, int got, int want) {
         calls++;
         said.append("  ").append(call).append(' ').append(got).append('\n');
-        if (got != want) {
+        // A step may go on behind the last call that the document promises something about.
+        if (got != want && calls <= CALLS) {
             wrong = true;
             said.append("  due is ").append(want).append('\n');
         }
