@@ -15,6 +15,8 @@ public final class Edges12CrashTest {
             fullJournalHasPlacesAgain(home);
             sessionsAreWhatTheOthersMakeOfThem(home);
             countedIsWhatTheOthersMakeOfIt(home);
+            enrolDoesNotChangeWhatTheyMake(home);
+            sessionsTakeTheirAddressesAgain(home);
             goneRequestsAreNotKnown(home);
         }
         restStays();
@@ -222,6 +224,69 @@ public final class Edges12CrashTest {
         CHECK.due("crash", desk.x.crash(home), true);
         desk.x.evict(home, 1);
         CHECK.same("an eviction does not count", desk.held(), "-1 -1 -1 -1 -1 -1 | 4 3 1");
+    }
+
+    /** An answer is its record's from the beginning: who is enrolled now, and how, is not asked anew. */
+    private static void enrolDoesNotChangeWhatTheyMake(int home) {
+        CHECK.about("the sessions and what was counted are what the others make of them", "enrol does not count");
+        for (int limit = 0; limit <= 6; limit++) {
+            for (int password : new int[] {0, 1000 + home - 3}) {
+                Desk desk = deskOfEachAnswer(home);
+                String before = desk.held();
+                desk.x.enrol(desk.user(0), password, limit);
+                desk.x.enrol(desk.user(1), password, limit);
+                CHECK.same("enrol changes no session", desk.held(), before);
+                CHECK.due("crash", desk.x.crash(home), true);
+                CHECK.same("after enrol with limit " + limit, desk.held(), before);
+                int[][] due = {{Realm.REJECT, 1}, {Realm.ACCEPT, 1}, {Realm.REJECT, 2}, {Realm.ACCEPT, 3}};
+                for (int record = 0; record < due.length; record++) {
+                    CHECK.due("the request is known", desk.ask(record, desk.user(0)), 2);
+                    CHECK.due("KIND of answer " + record, desk.x.field(1, 0), due[record][0]);
+                    CHECK.due("A of answer " + record, desk.x.field(1, 3), due[record][1]);
+                    desk.clear();
+                }
+            }
+        }
+    }
+
+    /** Durable: user 0 is turned away, let in, turned away at the limit; user 1 is let in and closed. */
+    private static Desk deskOfEachAnswer(int home) {
+        Desk desk = new Desk(home);
+        desk.x.enrol(desk.user(0), 1000 + desk.user(0), 1);
+        desk.ask(0, desk.user(0), 0);
+        desk.ask(1, desk.user(0));
+        desk.ask(2, desk.user(0));
+        desk.ask(3, desk.user(1));
+        desk.close(4, desk.user(1), 3);
+        CHECK.due("become durable", desk.x.sync(home), 5);
+        desk.clear();
+        CHECK.same("held", desk.held(), desk.user(0) + " -1 -1 -1 -1 -1 | 5 5 1");
+        return desk;
+    }
+
+    /** What is gone may have freed an address, and what came behind may have taken it. */
+    private static void sessionsTakeTheirAddressesAgain(int home) {
+        CHECK.about("the sessions and what was counted are what the others make of them", "with their addresses");
+        Desk desk = new Desk(home);
+        for (int i = 0; i < 6; i++) {
+            desk.ask(i, desk.user(i));
+        }
+        desk.x.sync(home);
+        desk.clear();
+        String before = desk.held();
+        desk.x.evict(home, 4);
+        desk.close(10, desk.user(2), 2);
+        desk.ask(11, desk.user(0));
+        desk.ask(12, desk.user(1));
+        CHECK.due("address 2 has another user", desk.x.holder(home, 2), desk.user(0));
+        CHECK.due("address 4 has another user", desk.x.holder(home, 4), desk.user(1));
+        desk.x.crash(home);
+        CHECK.same("each has the user of before", desk.held(), before);
+        desk.close(13, desk.user(2), 2);
+        CHECK.due("and the number of before", desk.x.holder(home, 2), -1);
+        CHECK.due("so that it is counted", desk.x.journal(home, 2), 1);
+        desk.ask(14, desk.user(3));
+        CHECK.due("the least address that is free", desk.x.holder(home, 2), desk.user(3));
     }
 
     private static void goneRequestsAreNotKnown(int home) {

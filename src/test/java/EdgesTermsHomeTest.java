@@ -27,6 +27,7 @@ public final class EdgesTermsHomeTest {
             closeNeedsNumberAndUser(home);
             closeIsCountedOnce(home);
             answerHasTheIdOfItsRequest(home);
+            answerIsTheRecordsFromThenOn(home);
         }
         CHECK.end();
     }
@@ -423,5 +424,30 @@ public final class EdgesTermsHomeTest {
             CHECK.same("the answer", Realm.parts(desk.x, 1),
                     Realm.datagram(home, 2, desk.key, Realm.CLOSED, v, ~v, v, ~v));
         }
+    }
+
+    private static void answerIsTheRecordsFromThenOn(int home) {
+        CHECK.about("otherwise it makes a record, with an answer", "what comes later does not change it");
+        Desk desk = new Desk(home);
+        int user = desk.user(2);
+        desk.ask(1, user, 0);
+        desk.x.enrol(user, 0, 6);
+        CHECK.same("rejected, enrolled with that password, then durable", desk.answer(), Desk.said(Realm.REJECT, 1, 0));
+        desk.ask(2, user, 0);
+        desk.x.enrol(user, 5, 0);
+        CHECK.same("accepted, enrolled otherwise, then durable", desk.answer(), Desk.said(Realm.ACCEPT, 1, 0));
+        desk.ask(3, user, 5);
+        desk.x.enrol(user, 5, 6);
+        desk.x.evict(home, 0);
+        CHECK.due("both become durable", desk.x.sync(home), 2);
+        CHECK.due("rejected at the limit, and so it stays: KIND", desk.x.field(1, 0), Realm.REJECT);
+        CHECK.due("rejected at the limit, and so it stays: A", desk.x.field(1, 3), 2);
+        desk.clear();
+        for (int auth = 1; auth <= 3; auth++) {
+            CHECK.due("the request is known", desk.ask(auth, user, 5), 2);
+            CHECK.due("KIND", desk.x.field(auth, 0), auth == 2 ? Realm.ACCEPT : Realm.REJECT);
+            CHECK.due("A", desk.x.field(auth, 3), auth == 3 ? 2 : 1);
+        }
+        CHECK.same("and no session came of it", desk.held(), "-1 -1 -1 -1 -1 -1 | 4 4 0");
     }
 }

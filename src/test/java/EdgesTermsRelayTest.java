@@ -18,6 +18,7 @@ public final class EdgesTermsRelayTest {
         answerIdIs0To7();
         answerNeedsTheEntrysHome();
         answerIsHandedOnWithAnyInts();
+        answerIsHandedOnWhateverTheEntrysKind();
         entriesStayWhenTheyWereAnswered();
         CHECK.end();
     }
@@ -262,6 +263,34 @@ public final class EdgesTermsRelayTest {
                 CHECK.due("kind " + kind + " with A " + v, x.deliver(0), 1);
                 CHECK.same("what goes on", Realm.parts(x, 0),
                         Realm.datagram(2, 0, Realm.KEYS[0], kind, 0, 7, v, ~v));
+            }
+        }
+    }
+
+    private static void answerIsHandedOnWhateverTheEntrysKind() {
+        CHECK.about("A datagram from a home is taken when it is an answer", "of any KIND, and the entry too");
+        for (int asked : new int[] {Realm.ASK, Realm.CLOSE}) {
+            for (int kind = -1; kind <= 6; kind++) {
+                RealmLogins x = Realm.answerToRelay();
+                if (asked == Realm.CLOSE) {
+                    x.deliver(0);
+                    x.deliver(0);
+                    x.logout(0, 0, 8);
+                    x.deliver(0);
+                    x.deliver(0);
+                    x.sync(3);
+                }
+                int entry = x.field(0, 1);
+                x.forge(0, 0, kind - x.field(0, 0));
+                Realm.reseal(x, 0, Realm.KEYS[2], Realm.mix(7 + entry, entry));
+                boolean answer = kind == Realm.ACCEPT || kind == Realm.REJECT || kind == Realm.CLOSED;
+                CHECK.due("kind " + kind + " for an entry of kind " + asked, x.deliver(0), answer ? 1 : 0);
+                CHECK.due("flight", x.flight(), answer ? 1 : 0);
+                if (answer) {
+                    boolean fits = (asked == Realm.CLOSE) == (kind == Realm.CLOSED);
+                    CHECK.due("the KIND that goes on", x.field(0, 0), kind);
+                    CHECK.due("the point takes what its line waits for", x.deliver(0), fits ? 1 : 0);
+                }
             }
         }
     }

@@ -6,6 +6,7 @@ import java.lang.reflect.Modifier;
 import java.nio.charset.StandardCharsets;
 import java.nio.file.Files;
 import java.nio.file.Path;
+import java.util.HashSet;
 import java.util.Set;
 import java.util.TreeSet;
 import java.util.regex.Matcher;
@@ -42,6 +43,7 @@ public final class FaceTest {
         classesInsideAreStaticAndHidden();
         namesOfTheFaceAreUsedOnce();
         wordsThatTheRulesLeaveOutAreNotThere();
+        methodsAreShortAndMakeNoObject();
         CHECK.end();
     }
 
@@ -100,9 +102,13 @@ public final class FaceTest {
         }
     }
 
-    private static void wordsThatTheRulesLeaveOutAreNotThere() throws IOException {
+    private static String code() throws IOException {
         String source = Files.readString(SOURCE, StandardCharsets.ISO_8859_1);
-        String code = source.replaceAll("(?s)/\\*.*?\\*/", " ").replaceAll("//.*", " ");
+        return source.replaceAll("(?s)/\\*.*?\\*/", " ").replaceAll("//.*", " ");
+    }
+
+    private static void wordsThatTheRulesLeaveOutAreNotThere() throws IOException {
+        String code = code();
         Matcher left = Pattern.compile("\\b(throw|throws|try|catch|finally|synchronized|assert|import|package|volatile"
                 + "|native|Object|Random|Thread|equals|hashCode|toString)\\b|->|::|\"|\\bSystem\\.(?!arraycopy\\b)"
                 + "|static\\s*\\{").matcher(code);
@@ -110,5 +116,32 @@ public final class FaceTest {
             CHECK.same("a word that the rules leave out", left.group(), "");
         }
         CHECK.due("the source was read", code.contains("class RealmLogins"), true);
+    }
+
+    /** All rows are made in constructors, so that a run of calls stays in its room. */
+    private static void methodsAreShortAndMakeNoObject() throws IOException {
+        Matcher method = Pattern.compile("(?m)^( {4}| {8})(?:[\\w\\[\\]]+ )+([a-z]\\w*)\\([^;{]*\\) \\{\n"
+                + "(?s:(.*?))\n\\1\\}$").matcher(code());
+        int found = 0;
+        while (method.find()) {
+            String name = method.group(2);
+            String body = method.group(3);
+            CHECK.due(name + " has some sixty lines at most", body.split("\n").length <= 60, true);
+            CHECK.due(name + " makes an object", Pattern.compile("\\bnew\\b|\\bclone\\b").matcher(body).find(), false);
+            found++;
+        }
+        CHECK.due("methods that were read", found, countOfMethods());
+    }
+
+    private static int countOfMethods() {
+        int count = 0;
+        Set<Class<?>> all = new HashSet<>(Set.of(RealmLogins.class.getDeclaredClasses()));
+        all.add(RealmLogins.class);
+        for (Class<?> one : all) {
+            for (Method method : one.getDeclaredMethods()) {
+                count += method.isSynthetic() ? 0 : 1;
+            }
+        }
+        return count;
     }
 }
